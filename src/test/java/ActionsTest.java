@@ -12,6 +12,7 @@ public final class ActionsTest {
         bypasses();
         joinedEdges();
         refusedBypasses();
+        eightBlocks();
         counts();
         alignments();
         undoBringsEverythingBack();
@@ -189,6 +190,24 @@ public final class ActionsTest {
         Check.due("and is bypassed", x.bypass(2), 1);
         Check.due("0 keeps one successor", x.successor(0, 1), BlockLayout.NO_SUCH_INDEX);
         Check.due("which is 3", x.successor(0, 0), 3);
+    }
+
+    private static void eightBlocks() {
+        BlockLayout x = Check.loaded("B8 10 01120 01230 01340 01450 01560 01670 01780 01090");
+        Check.due("cost", x.cost(), 180);
+        // 7 0 is always lost; 0 1 and 1 2 by the rotation, 1 2 and 2 3 by the swap.
+        Check.due("rotate", x.rotate(1, 7), 40 + 60 + 180);
+        Check.due("rotated", Check.order(x), "02345671");
+        Check.due("swap", x.swap(1, 7), 60 + 80 + 180);
+        Check.due("swapped", Check.order(x), "01345672");
+        Check.due("split", x.split(40), 6);
+        Check.due("order", Check.order(x), "034567|12");
+        Check.due("bypass the last block", x.bypass(7), 1);
+        Check.due("6 leads to 0", x.successor(6, 0), 0);
+        Check.due("executions of 0", x.executions(0), 10 + 80);
+        Check.due("four actions", x.undo(), 3);
+        Check.due("bypass 6", x.bypass(6), 1);
+        Check.due("5 leads to 7", x.successor(5, 0), 7);
     }
 
     private static void counts() {

@@ -7,6 +7,8 @@ public final class ChainsTest {
         greaterCountsFirst();
         weightsGoBothWays();
         weightsGrowWithWhatIsPlaced();
+        weightsAreSums();
+        eightBlocks();
         allBlocksBecomeHot();
         wrongBlocks();
         Check.end();
@@ -73,6 +75,35 @@ public final class ChainsTest {
         Check.due("heads", heads(x), "002344");
         x.orderByChains();
         Check.due("order", Check.order(x), "014532");
+    }
+
+    private static void weightsAreSums() {
+        // Block 5 has 3 + 3 from the first chain, block 4 has 5 once.
+        BlockLayout x = Check.loaded("B6 00 02120503 02220503 02320405 00 00 00");
+        Check.due("heads", heads(x), "000045");
+        x.orderByChains();
+        Check.due("order", Check.order(x), "012354");
+        x = Check.loaded("B6 00 02120405 01220 01320 00 00 02003103");
+        x.orderByChains();
+        Check.due("out of the chain", Check.order(x), "012354");
+    }
+
+    private static void eightBlocks() {
+        // Each leads back to the one before, so that the first chain is 0 7 6 5 4 3 2 1.
+        BlockLayout x = Check.loaded("B8 00 02730120 02030210 02140310 02240410 02340510 02440610 02540710 02640010");
+        Check.due("heads", heads(x), "00000000");
+        Check.due("cost", x.orderByChains(), 60 + 110 + 6 * 30);
+        Check.due("order", Check.order(x), "07654321");
+        x = Check.loaded("B8 00" + "00".repeat(8));
+        x.swap(1, 7);
+        x.orderByChains();
+        Check.due("eight chains", Check.order(x), "01234567");
+        x = Check.loaded("B2 00 00 00");
+        x.orderByChains();
+        Check.due("two chains", Check.order(x), "01");
+        x = Check.loaded("B3 00 01205 00 00");
+        x.orderByChains();
+        Check.due("a chain and one more", Check.order(x), "021");
     }
 
     private static void allBlocksBecomeHot() {

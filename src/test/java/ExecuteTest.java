@@ -6,6 +6,7 @@ public final class ExecuteTest {
         oneSuccessor();
         twoSuccessors();
         countsOfZero();
+        joinedEdge();
         followsTheLayout();
         nothingChanges();
         Check.end();
@@ -88,6 +89,21 @@ public final class ExecuteTest {
         Check.due("slot 0 never", x.execute(11, 99), 98 * 2);
         x = Check.loaded("B2 00 02001100 01100");
         Check.due("slot 1 never", x.execute(11, 99), 99 * 3);
+    }
+
+    private static void joinedEdge() {
+        // Blocks 0 and 1 led to each other by both slots; behind the bypass 0 has its own loop alone.
+        BlockLayout x = Check.loaded("B3 00 02010190 01005 00");
+        Check.due("bypass", x.bypass(1), 1);
+        Check.due("one successor", x.successor(0, 1), BlockLayout.NO_SUCH_INDEX);
+        for (int seed = 0; seed < 20; seed++) {
+            Check.due("seed " + seed, x.execute(seed, 99), 99 * 2);
+        }
+        Check.reload(x, "B3 00 02105290 00 00");
+        Check.reload(x, "B3 00 01105 00 00");
+        for (int seed = 0; seed < 20; seed++) {
+            Check.due("seed " + seed + " of the next function", x.execute(seed, 99), 0);
+        }
     }
 
     private static void followsTheLayout() {

@@ -11,6 +11,7 @@ public final class LayoutTest {
         loopHeads();
         coldBlocksAreNoLoopHeads();
         coldSectionStartsAt16();
+        eightBlocks();
         wrongIndices();
         Check.end();
     }
@@ -119,6 +120,17 @@ public final class LayoutTest {
         x.split(1);
         Check.due("order", Check.order(x), "01|2");
         Check.due("16 is a multiple already", Check.addresses(x), "0 9 16 19");
+    }
+
+    private static void eightBlocks() {
+        BlockLayout x = Check.loaded("B8 00 91120 91220 91320 91420 91509 91620 91709 91020");
+        Check.due("addresses", Check.addresses(x), "0 9 18 27 36 45 54 63 74");
+        x.split(10);
+        Check.due("order", Check.order(x), "012346|57");
+        Check.due("last hot block", x.branchBytes(6), 2);
+        Check.due("last cold block", x.branchBytes(7), 2);
+        Check.due("addresses of two sections", Check.addresses(x), "0 9 18 27 36 64 47 75 86");
+        Check.due("cost", x.cost(), 18 + 40 + 18 + 40);
     }
 
     private static void wrongIndices() {

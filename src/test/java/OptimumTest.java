@@ -55,6 +55,9 @@ public final class OptimumTest {
         Check.due("optimum of the new hot set", x.optimalCost(), 6 + 8 + 10);
         x.orderOptimally();
         Check.due("smallest of the new hot set", Check.order(x), "0325|41");
+        x = Check.loaded("B4 00 00 01105 01206 01307");
+        x.split(99);
+        Check.due("all cold jumps", x.optimalCost(), 10 + 12 + 14);
         x = Check.loaded("B3 00 00 00 01104");
         x.split(99);
         Check.due("only block 0 is hot", Check.order(x), "0|12");

@@ -28,6 +28,8 @@ public final class ScriptTest {
         int[] badNumbers = {Integer.MIN_VALUE, -1, 0, 5, Integer.MAX_VALUE};
         for (int n : badNumbers) {
             Check.due("n " + n, x.runScript(n, 5043), BlockLayout.BAD_VALUE);
+            Check.due("nothing, n " + n, x.runScript(n, 0), BlockLayout.BAD_VALUE);
+            Check.due("negative, n " + n, x.runScript(n, -5), BlockLayout.BAD_VALUE);
         }
         long limit = 1;
         for (int n = 1; n <= 4; n++) {

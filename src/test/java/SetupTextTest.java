@@ -11,6 +11,8 @@ public final class SetupTextTest {
         behindTheSetup();
         loadReplaces();
         loadRefuses();
+        clearedSignsDoNotCount();
+        lastFunctionLeavesNothing();
         Check.end();
     }
 
@@ -49,10 +51,14 @@ public final class SetupTextTest {
     }
 
     private static void everyPrefixIsTooShort() {
-        for (int length = 0; length < WHOLE.length(); length++) {
-            Check.due("prefix " + length, errorOf(WHOLE.substring(0, length)), length);
+        String[] setups = {WHOLE, "B10001000", "B30000" + "01199" + "12205005", "B899" + "92099199".repeat(8)};
+        for (String setup : setups) {
+            for (int length = 0; length < setup.length(); length++) {
+                String prefix = setup.substring(0, length);
+                Check.due("prefix " + prefix, errorOf(prefix), length);
+            }
+            Check.due("whole setup " + setup, errorOf(setup), BlockLayout.NONE);
         }
-        Check.due("whole setup", errorOf(WHOLE), BlockLayout.NONE);
     }
 
     private static void everySignIsLookedAt() {
@@ -89,6 +95,36 @@ public final class SetupTextTest {
         Check.due("two signs behind", errorOf(WHOLE + "B2"), WHOLE.length());
         Check.due("sign 0 behind", errorOf(WHOLE + (char) 0), WHOLE.length());
         Check.due("full text behind", errorOf((WHOLE + "0".repeat(99)).substring(0, 99)), WHOLE.length());
+    }
+
+    private static void clearedSignsDoNotCount() {
+        BlockLayout x = new BlockLayout();
+        for (int length = 0; length < WHOLE.length(); length++) {
+            Check.type(x, WHOLE);
+            x.clearText();
+            Check.type(x, WHOLE.substring(0, length));
+            Check.due("cleared signs behind " + length, x.errorPosition(), length);
+            Check.due("load of " + length, x.load(), BlockLayout.NOT_POSSIBLE);
+            x.clearText();
+        }
+    }
+
+    /** The same calls on a new object and on one that had a function with more edges before. */
+    private static void lastFunctionLeavesNothing() {
+        BlockLayout x = Check.loaded("B8 77" + "52390190".repeat(3) + "52590190".repeat(5));
+        x.split(99);
+        x.orderByChains();
+        Check.reload(x, "B6 00 01405 01205 01305 00 01505 01205");
+        BlockLayout fresh = Check.loaded("B6 00 01405 01205 01305 00 01505 01205");
+        Check.due("portrait", Check.portrait(x), Check.portrait(fresh));
+        Check.due("executions of 1", x.executions(1), 0);
+        Check.due("chain order", x.orderByChains(), 10);
+        Check.due("order", Check.order(x), "045123");
+        for (int seed = 0; seed < 20; seed++) {
+            Check.due("walk " + seed, x.execute(seed, 5), fresh.execute(seed, 5) - 2);
+        }
+        Check.due("edges to 1", x.bypass(1), 0);
+        Check.due("edges to 2", x.bypass(2), 2);
     }
 
     private static void loadReplaces() {
