@@ -2,23 +2,25 @@
 final class Check {
     private static int asked = 0;
     private static int wrong = 0;
+    private static String sentence = "";
 
     private Check() {
     }
 
+    /** The document's words that the answers from here on are due by; a wrong answer tells them. */
+    static void sentence(String words) {
+        sentence = " (the document: " + words + ")";
+    }
+
     static void due(String what, long got, long want) {
-        asked++;
-        if (got != want) {
-            wrong++;
-            System.out.println(what + " answered " + got + ", due is " + want);
-        }
+        due(what, Long.toString(got), Long.toString(want));
     }
 
     static void due(String what, String got, String want) {
         asked++;
         if (!got.equals(want)) {
             wrong++;
-            System.out.println(what + " answered " + got + ", due is " + want);
+            System.out.println(what + " answered " + got + ", due is " + want + sentence);
         }
     }
 
@@ -53,28 +55,29 @@ final class Check {
 
     static String order(BlockLayout x) {
         StringBuilder blocks = new StringBuilder();
-        for (int i = 0; i < x.blockCount(); i++) {
-            if (i == x.hotCount()) {
-                blocks.append('|');
-            }
-            blocks.append(x.blockAt(i));
+        int n = x.blockCount();
+        int hot = x.hotCount();
+        for (int i = 0; i < n; i++) {
+            blocks.append(i == hot ? "|" : "").append(x.blockAt(i));
         }
         return blocks.toString();
     }
 
     static String addresses(BlockLayout x) {
         StringBuilder all = new StringBuilder();
-        for (int b = 0; b < x.blockCount(); b++) {
+        int n = x.blockCount();
+        for (int b = 0; b < n; b++) {
             all.append(x.address(b)).append(' ');
         }
         return all.append(x.codeSize()).toString();
     }
 
-    /** All that queries tell of the function and the layout, in one text. */
+    /** All that queries tell of the function and the layout, in one text: 6 + 8 * n calls. */
     static String portrait(BlockLayout x) {
         StringBuilder all = new StringBuilder(order(x)).append(" cost ").append(x.cost());
         all.append(" addresses ").append(addresses(x));
-        for (int b = 0; b < x.blockCount(); b++) {
+        int n = x.blockCount();
+        for (int b = 0; b < n; b++) {
             all.append(" / ").append(x.size(b)).append(' ').append(x.executions(b));
             for (int k = 0; k < 2; k++) {
                 all.append(' ').append(x.successor(b, k)).append(':').append(x.edgeCount(b, k));

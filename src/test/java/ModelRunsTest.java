@@ -1,12 +1,13 @@
 import java.util.Random;
 
 /**
- * Runs of 512 calls with drawn arguments, on the class and on the model at once. The seeds are
+ * Runs of some 510 calls with drawn arguments, on the class and on the model at once. The seeds are
  * fixed, so that every run of this test is the same; more runs: java ModelRunsTest x 5000.
  */
 public final class ModelRunsTest {
     private static final int[] FAR = {Integer.MIN_VALUE, -100, -2, 8, 9, 100, 256, Integer.MAX_VALUE};
-    private static final int CALLS = 512;
+    /** The longest group of calls that is not cut off goes on for four more: 512 is the limit. */
+    private static final int CALLS = 508;
 
     private final Random random;
     private final BlockLayout x = new BlockLayout();
