@@ -6,6 +6,7 @@ public final class ChainBoundsTest {
         fallingCounts();
         equalCountsOfBlocks();
         equalCountsOfSlots();
+        whateverTheLayout();
         lastOfItsChain();
         firstOfItsChain();
         differentChains();
@@ -14,6 +15,7 @@ public final class ChainBoundsTest {
         chainOfBlock0First();
         greatestWeight();
         equalWeights();
+        weightsOfAnyPlacedBlock();
         weightsOf0();
         weightsWithPlacedBlocksOnly();
         allBecomeHot();
@@ -86,6 +88,24 @@ public final class ChainBoundsTest {
         heads("slot 0 to the greater", "B3 00 02250150 00 00", "010");
     }
 
+    private static void whateverTheLayout() {
+        Check.sentence("the block with the smaller number, not the smaller position; all blocks, hot or cold");
+        BlockLayout x = Check.loaded("B5 00 00 01350 01350 01450 00");
+        headsOf("by numbers", x, "01211");
+        x.swap(1, 2);
+        headsOf("2 before 1 in the layout", x, "01211");
+        Check.due("split", x.split(99), 2);
+        headsOf("3 alone is hot", x, "01211");
+        x.setCount(1, 0, 49);
+        Check.due("split", x.split(99), 2);
+        headsOf("one less", x, "01222");
+        x.setCount(2, 0, 48);
+        Check.due("split", x.split(99), 1);
+        headsOf("all others cold", x, "01211");
+        x.orderByChains();
+        Check.due("order", Check.order(x), "01342");
+    }
+
     private static void lastOfItsChain() {
         Check.sentence("if its block is the last block of a chain");
         // 0 1 is a chain by then, and 0 is not its last block.
@@ -131,8 +151,7 @@ public final class ChainBoundsTest {
 
     private static void greatestWeight() {
         Check.sentence("the chain with the greatest weight comes next");
-        // 0 1 is the first chain; 2 and 3 hang on 1 and 0 by counts that differ by one.
-        chainOrder("49 against 50", "B4 00 02199349 01250 00 00", "0123");
+        // 0 1 is the first chain; 0 leads to 2, and 3 leads to 0, by counts that differ by one.
         chainOrder("smaller number, smaller weight", "B4 00 02199250 00 00 01051", "0132");
         chainOrder("smaller number, greater weight", "B4 00 02199251 00 00 01050", "0123");
         Check.sentence("edges that lead from a block that is placed already to a block of the chain");
@@ -149,6 +168,17 @@ public final class ChainBoundsTest {
         // The chain 4 1 has the first block 4, though it holds the smallest number of all.
         chainOrder("first block 4 against 2", "B5 00 01399 00 01050 00 02199050", "03241");
         chainOrder("first block 4 against 2, one more", "B5 00 01399 00 01050 00 02199051", "03412");
+    }
+
+    private static void weightsOfAnyPlacedBlock() {
+        Check.sentence("the weight counts edges from and to every block that is placed already, not block 0 alone");
+        // The first chain is 0 1 2; 1 leads to 4, and 3 leads to 1.
+        chainOrder("30 out against 29 in", "B5 00 01199 02298429 00 01130 00", "01234");
+        chainOrder("30 out against 30 in", "B5 00 01199 02298430 00 01130 00", "01234");
+        chainOrder("30 out against 31 in", "B5 00 01199 02298431 00 01130 00", "01243");
+        // 4 leads to 1, the last of the first chain, and 3 leads to 0.
+        chainOrder("30 to 0 against 31 to 1", "B5 00 01199 00 00 01030 01131", "01432");
+        chainOrder("30 to 0 against 30 to 1", "B5 00 01199 00 00 01030 01130", "01342");
     }
 
     private static void weightsOf0() {

@@ -7,9 +7,9 @@ final class Check {
     private Check() {
     }
 
-    /** The document's words that the answers from here on are due by; a wrong answer tells them. */
+    /** What the document says, in its words or in short, of the answers from here on; a wrong one tells it. */
     static void sentence(String words) {
-        sentence = " (the document: " + words + ")";
+        sentence = " (" + words + ")";
     }
 
     static void due(String what, long got, long want) {
