@@ -654,11 +654,15 @@ public final class BlockLayout {
         }
 
         private boolean readEdge(int b, int k) {
-            int successor = digitHere(0, draftFrame.blocks - 1);
-            if (successor < 0 || (k == 1 && successor == draft.target(b, 0))) {
+            int successor = readDigit(0, draftFrame.blocks - 1);
+            if (successor < 0) {
                 return false;
             }
-            at++;
+            if (k == 1 && successor == draft.target(b, 0)) {
+                // The error is this sign and not the one behind it.
+                at--;
+                return false;
+            }
             int c = readCount();
             draft.putTarget(b, k, successor);
             draft.putCount(b, k, c);
@@ -675,19 +679,15 @@ public final class BlockLayout {
         }
 
         private int readDigit(int least, int most) {
-            int digit = digitHere(least, most);
-            if (digit >= 0) {
-                at++;
-            }
-            return digit;
-        }
-
-        private int digitHere(int least, int most) {
             if (at >= length) {
                 return -1;
             }
             int digit = signs[at] - '0';
-            return digit >= least && digit <= most ? digit : -1;
+            if (digit < least || digit > most) {
+                return -1;
+            }
+            at++;
+            return digit;
         }
     }
 
@@ -876,14 +876,17 @@ public final class BlockLayout {
             }
         }
 
-        /** Wants a set that is not empty, and all smaller sets filled. */
+        /**
+         * Wants a set that is not empty, and all smaller sets filled. Block 0 is in no set, so that it
+         * can stand for none so far; unlike NO_BLOCK it is an index of every row.
+         */
         private int cheapestNext(State state, int set, int last) {
             int cheapest = 0;
-            int cheapestCost = Integer.MAX_VALUE;
+            int cheapestCost = 0;
             for (int b = 1; b < state.frame.blocks; b++) {
                 if (contains(set, b)) {
                     int throughCost = costThrough(set, last, b);
-                    if (throughCost < cheapestCost) {
+                    if (cheapest == 0 || throughCost < cheapestCost) {
                         cheapest = b;
                         cheapestCost = throughCost;
                     }

@@ -7,6 +7,8 @@ import java.nio.file.Files;
 import java.nio.file.Path;
 import java.util.Set;
 import java.util.TreeSet;
+import java.util.regex.Matcher;
+import java.util.regex.Pattern;
 
 /** The public face, and what can be seen from outside of the rules in LANGUAGE.md. */
 public final class FaceTest {
@@ -22,6 +24,12 @@ public final class FaceTest {
         "throw", "throws", "try", "catch", "synchronized", "assert", "import", "package", "\\w*Exact",
         "->", "::", "hashCode", "toString", "double", "float", "System.out", "System.nanoTime",
         "volatile", "native", "transient", "protected"};
+    /** Of what rule 4 of LANGUAGE.md lists, the names that a class name stands before. */
+    private static final Set<String> LIBRARY = Set.of(
+        "System.arraycopy", "Arrays.copyOf", "Arrays.copyOfRange", "Arrays.fill", "List.of",
+        "Integer.bitCount", "Integer.compare", "Long.bitCount", "Long.compare",
+        "Math.abs", "Math.floorDiv", "Math.floorMod", "Math.max", "Math.min");
+    private static final int MOST_LINES = 60;
 
     public static void main(String[] args) throws IOException {
         constants();
@@ -29,7 +37,10 @@ public final class FaceTest {
         methods();
         members(BlockLayout.class.getDeclaredClasses());
         if (args.length > 0) {
-            words(Files.readString(Path.of(args[0])));
+            String source = Files.readString(Path.of(args[0]));
+            words(source);
+            library(codeOf(source));
+            lengths(source);
         }
         Check.end();
     }
@@ -100,8 +111,42 @@ public final class FaceTest {
         }
     }
 
+    private static String codeOf(String source) {
+        return source.replaceAll("(?s)/\\*.*?\\*/", " ").replaceAll("//[^\n]*", " ");
+    }
+
+    /** A name of the library is one that no class of the file bears; its constants are not listed either. */
+    private static void library(String code) {
+        Set<String> own = new TreeSet<>(Set.of("BlockLayout"));
+        for (Class<?> type : BlockLayout.class.getDeclaredClasses()) {
+            own.add(type.getSimpleName());
+        }
+        Matcher use = Pattern.compile("\\b([A-Z][a-z]\\w*)\\.(\\w+)").matcher(code);
+        while (use.find()) {
+            boolean isListed = own.contains(use.group(1)) || LIBRARY.contains(use.group());
+            Check.isTrue("LANGUAGE.md lists " + use.group(), isListed);
+        }
+    }
+
+    /** Methods stand four or eight signs from the margin, and so do their last lines. */
+    private static void lengths(String source) {
+        String[] lines = source.split("\n");
+        Pattern head = Pattern.compile("( {4}| {8})\\w[^=;]*\\) \\{");
+        for (int i = 0; i < lines.length; i++) {
+            Matcher method = head.matcher(lines[i]);
+            if (!method.matches() || lines[i].matches("\\s*(if|for|while|switch|do|else)\\b.*")) {
+                continue;
+            }
+            int end = i;
+            while (end < lines.length && !lines[end].equals(method.group(1) + "}")) {
+                end++;
+            }
+            Check.isTrue(lines[i].trim() + " is short", end - i < MOST_LINES);
+        }
+    }
+
     private static void words(String source) {
-        String code = source.replaceAll("(?s)/\\*.*?\\*/", " ").replaceAll("//[^\n]*", " ");
+        String code = codeOf(source);
         for (String word : BANNED) {
             boolean isWord = word.charAt(0) != '-' && word.charAt(0) != ':';
             String pattern = isWord ? "(?s).*\\b" + word.replace(".", "\\.") + "\\b.*" : "(?s).*" + word + ".*";
